@@ -29,6 +29,7 @@ public final class QueryHall {
     private static final int NULL = 0, ANY = 0, NUMBER = 1, TRUTH = 2, TEXT = 3;
     private static final int CELL = 3;
     private static final int MOST_LETTERS = 12;
+    private static final long GREATEST_NUMBER = 9223372036854775807L;
 
     // A REF's target, and a row of ITEMS together, are packed into one int.
     private static final int COLUMN_BITS = 3, ROW_BITS = 5, NO_ROW = 31;
@@ -110,12 +111,12 @@ public final class QueryHall {
         s.size = 0;
         if (!parser.read(s.text, size, s.code)) {
             s.beWrong(parser.faultKind, parser.faultPlace);
-        } else if (!checker.check(s.code, indexCount)) {
+        } else if (!checker.check(s.code)) {
             s.beWrong(checker.faultKind, checker.faultPlace);
         } else {
             start(session);
         }
-        goOnWithOthers();
+        goOn();
         endCall();
         return s.outcome;
     }
@@ -143,7 +144,7 @@ public final class QueryHall {
         } else {
             endTransaction(session);
         }
-        goOnWithOthers();
+        goOn();
         endCall();
         return true;
     }
@@ -377,7 +378,7 @@ public final class QueryHall {
                 }
                 evaluator.use(s.code);
                 locks.prepare(session, s.code, evaluator);
-                proceed(session);
+                locks.makeReady(session);
         }
     }
 
@@ -427,7 +428,7 @@ public final class QueryHall {
             tables[table] = new Table(c);
             tableCount++;
         } else {
-            tables[table].addIndex(c.names[0], indexCount, c.settings[0]);
+            tables[table].addIndex(c.names[0], indexCount, c.columns[0]);
             indexCount++;
         }
         journal.add(CREATE_RECORD, NONE, table);
@@ -435,33 +436,25 @@ public final class QueryHall {
         s.outcome = 0;
     }
 
-    /** Asks the locks that a statement has not yet, and does it when it has them all. */
-    private void proceed(int session) {
-        Session s = sessions[session];
-        s.outcome = locks.ask(session);
-        if (s.outcome == BLOCKED) {
-            return;
-        }
-        if (s.outcome == DEADLOCK) {
-            journal.rollBack(s);
-            endTransaction(session);
-            return;
-        }
-        evaluator.use(s.code);
-        perform(s);
-        if (!s.begun) {
-            journal.commit(s);
-            endTransaction(session);
-        }
-    }
-
-    private void goOnWithOthers() {
+    /** Each session that can go on asks the locks that it has not yet, and does its statement when it has them all. */
+    private void goOn() {
         for (int n = 0; n < MOST_TURNS; n++) {
             int session = locks.takeReady();
             if (session == NONE) {
                 return;
             }
-            proceed(session);
+            Session s = sessions[session];
+            s.outcome = locks.ask(session);
+            if (s.outcome == DEADLOCK) {
+                journal.rollBack(s);
+                endTransaction(session);
+            } else if (s.outcome != BLOCKED) {
+                perform(s);
+                if (!s.begun) {
+                    journal.commit(s);
+                    endTransaction(session);
+                }
+            }
         }
     }
 
@@ -471,43 +464,40 @@ public final class QueryHall {
         locks.release(session);
     }
 
+    /** All is worked out first, which may be too much; then all is changed, or nothing. */
     private void perform(Session s) {
+        Code c = s.code;
+        evaluator.use(c);
+        changed = 0;
         try {
-            if (s.code.statement == SELECT) {
-                performSelect(s);
+            if (c.statement == INSERT) {
+                gatherInserts(c);
+            } else if (c.statement == SELECT) {
+                evaluator.work(c.top, NONE);
+                evaluator.tell(c.top, s);
             } else {
-                performChange(s);
+                gatherRows(c);
             }
-        } catch (IllegalStateException looksAtTooMuch) {
+        } catch (IllegalStateException tooMuch) {
             s.refuse(6);
-        }
-    }
-
-    private void performSelect(Session s) {
-        Select top = s.code.top;
-        if (top == null) {
             return;
         }
-        evaluator.work(top, NONE);
-        evaluator.tell(top, s);
-        planner.choose(s);
-        s.outcome = s.rows;
+        if (c.statement == SELECT) {
+            planner.choose(s);
+            s.outcome = s.rows;
+        } else {
+            change(s, tables[c.target]);
+        }
     }
 
-    private void performChange(Session s) {
+    private void change(Session s, Table t) {
         Code c = s.code;
-        Table t = tables[c.target];
-        changed = 0;
-        if (c.statement == INSERT) {
-            gatherInserts(c, t);
-        } else {
-            gatherRows(c, t);
-        }
+        boolean setsKey = setsKey(c);
         int reason = c.statement == DELETE ? 0 : reasonAgainst(c, t);
         if (reason == 0 && c.statement == INSERT && overfull(s, t)) {
             reason = 5;
         }
-        int records = setsKey(c) ? 2 * changed : changed;
+        int records = setsKey ? 2 * changed : changed;
         int begins = s.begin == 0 && records > 0 ? 1 : 0;
         if (reason == 0 && journal.last + reserve() + 2 * records + 2 * begins > MOST_RECORDS) {
             reason = 7;
@@ -516,11 +506,17 @@ public final class QueryHall {
             s.refuse(reason);
             return;
         }
-        write(s);
+        for (int r = 0; r < changed; r++) {
+            journal.change(s, c.target, oldRows[r], setsKey ? null : newRows[r]);
+        }
+        for (int r = 0; setsKey && r < changed; r++) {
+            journal.change(s, c.target, null, newRows[r]);
+        }
         s.outcome = changed;
     }
 
-    private void gatherInserts(Code c, Table t) {
+    private void gatherInserts(Code c) {
+        Table t = tables[c.target];
         int root = 0;
         for (int r = 0; r < c.rowCount && r < MOST_ROWS; r++) {
             long[] row = new long[t.columns * CELL];
@@ -534,7 +530,8 @@ public final class QueryHall {
         }
     }
 
-    private void gatherRows(Code c, Table t) {
+    private void gatherRows(Code c) {
+        Table t = tables[c.target];
         for (int r = 0; r < t.size; r++) {
             long[] row = t.rows[r];
             evaluator.stand(row);
@@ -543,7 +540,7 @@ public final class QueryHall {
             }
             long[] next = c.statement == UPDATE ? Arrays.copyOf(row, row.length) : null;
             for (int i = 0; next != null && i < c.rootCount && i < MOST_COLUMNS; i++) {
-                evaluator.valueInto(c.roots[i], next, c.settings[i]);
+                evaluator.valueInto(c.roots[i], next, c.columns[i]);
             }
             oldRows[changed] = row;
             newRows[changed] = next;
@@ -553,7 +550,7 @@ public final class QueryHall {
 
     private static boolean setsKey(Code c) {
         for (int i = 0; c.statement == UPDATE && i < c.rootCount && i < MOST_COLUMNS; i++) {
-            if (c.settings[i] == 0) {
+            if (c.columns[i] == 0) {
                 return true;
             }
         }
@@ -583,12 +580,11 @@ public final class QueryHall {
                 return true;
             }
         }
-        int at = t.find(newRows[r]);
-        if (at == NONE) {
+        if (t.find(newRows[r]) < 0) {
             return false;
         }
         for (int i = 0; i < changed; i++) {
-            if (oldRows[i] == t.rows[at]) {
+            if (oldRows[i] != null && Table.compare(oldRows[i], 0, newRows[r], 0) == 0) {
                 return false;
             }
         }
@@ -611,22 +607,6 @@ public final class QueryHall {
             reserve += sessions[i].begin > 0 ? 1 + sessions[i].openRecords : 0;
         }
         return reserve;
-    }
-
-    private void write(Session s) {
-        int table = s.code.target;
-        if (setsKey(s.code)) {
-            for (int r = 0; r < changed; r++) {
-                journal.change(s, table, oldRows[r], null);
-            }
-            for (int r = 0; r < changed; r++) {
-                journal.change(s, table, null, newRows[r]);
-            }
-            return;
-        }
-        for (int r = 0; r < changed; r++) {
-            journal.change(s, table, oldRows[r], newRows[r]);
-        }
     }
 
     /** What belongs to one session: its TEXT, latest statement, answer, plan and transaction. */
@@ -703,8 +683,8 @@ public final class QueryHall {
             columns = c.nameCount - 1;
             for (int i = 0; i < columns && i < MOST_COLUMNS; i++) {
                 columnNames[i] = c.names[i + 1];
-                types[i] = c.columnTypes[i];
-                filled[i] = i == 0 || c.columnFilled[i];
+                types[i] = c.columns[i];
+                filled[i] = i == 0 || c.filled[i];
             }
         }
 
@@ -726,48 +706,37 @@ public final class QueryHall {
             }
         }
 
-        /** How many rows have a KEY before that of this row. */
-        int before(long[] row) {
+        /** Where the row with the KEY of this one stands; if there is none, NONE less the place where it would stand. */
+        int find(long[] row) {
             int at = 0;
             while (at < size && compare(rows[at], 0, row, 0) < 0) {
                 at++;
             }
-            return at;
+            return at < size && compare(rows[at], 0, row, 0) == 0 ? at : NONE - at;
         }
 
-        int find(long[] row) {
-            int at = before(row);
-            return at < size && compare(rows[at], 0, row, 0) == 0 ? at : NONE;
-        }
-
-        void bring(long[] row) {
-            int at = before(row);
-            if (size >= MOST_ROWS) {
+        /** Turns a row (null: one that was not there) into another one of the same KEY (null: it is there no more). */
+        void turn(long[] from, long[] to) {
+            long[] row = to == null ? from : to;
+            if (row == null) {
                 return;
             }
-            for (int i = size; i > at; i--) {
-                rows[i] = rows[i - 1];
-            }
-            rows[at] = row;
-            size++;
-        }
-
-        void remove(long[] row) {
             int at = find(row);
-            if (at == NONE) {
-                return;
+            if (from == null && at < 0 && size < MOST_ROWS) {
+                at = NONE - at;
+                for (int i = size; i > at; i--) {
+                    rows[i] = rows[i - 1];
+                }
+                size++;
+            } else if (to == null && at >= 0) {
+                size--;
+                for (int i = at; i < size; i++) {
+                    rows[i] = rows[i + 1];
+                }
+                at = size;
             }
-            size--;
-            for (int i = at; i < size; i++) {
-                rows[i] = rows[i + 1];
-            }
-            rows[size] = null;
-        }
-
-        void replace(long[] row) {
-            int at = find(row);
-            if (at != NONE) {
-                rows[at] = row;
+            if (at >= 0) {
+                rows[at] = to;
             }
         }
 
@@ -889,13 +858,12 @@ public final class QueryHall {
         final long[] cells = new long[SIZE * CELL];
         final long[] names = new long[MOST_COLUMNS + 1];
         final int[] nameAt = new int[MOST_COLUMNS + 1];
-        final int[] columnTypes = new int[MOST_COLUMNS];
-        final boolean[] columnFilled = new boolean[MOST_COLUMNS];
-        final int[] settings = new int[MOST_COLUMNS];
+        // Of create table the columns' types; of update the columns that are set, of create index its column.
+        final int[] columns = new int[MOST_COLUMNS];
+        final boolean[] filled = new boolean[MOST_COLUMNS];
         final int[] roots = new int[MOST_INSERTS * MOST_COLUMNS];
         final int[] rowAt = new int[MOST_INSERTS];
         final int[] rowSize = new int[MOST_INSERTS];
-        final int[] pending = new int[SIZE];
         final ArrayList<Select> selects = new ArrayList<>();
         int statement;
         int count;
@@ -965,25 +933,26 @@ public final class QueryHall {
             return what >= COUNT_ALL && what <= GREATEST;
         }
 
-        /** Puts the PARTS of an EXPR, in order, into a row from a place on: the place behind them. */
+        /**
+         * Puts the PARTS of an EXPR, in order, into a row from a place on: the place behind them. They are found from the
+         * last one on: before an 'and' stands its right side, and before that, its left one.
+         */
         int split(int root, int[] parts, int from) {
             int to = from;
-            int waiting = 0;
-            if (root != NONE) {
-                pending[0] = root;
-                waiting = 1;
-            }
-            for (int n = 0; n < SIZE && waiting > 0; n++) {
-                waiting--;
-                int node = pending[waiting];
-                if (op[node] == BOTH && waiting + 2 <= SIZE) {
-                    pending[waiting] = node - 1;
-                    pending[waiting + 1] = leftOf(node);
-                    waiting += 2;
-                } else if (to < parts.length) {
+            int node = root;
+            while (root != NONE && node >= first[root] && to < parts.length) {
+                if (op[node] == BOTH) {
+                    node--;
+                } else {
                     parts[to] = node;
                     to++;
+                    node = first[node] - 1;
                 }
+            }
+            for (int i = from, j = to - 1; i < j; i++, j--) {
+                int part = parts[i];
+                parts[i] = parts[j];
+                parts[j] = part;
             }
             return to;
         }
@@ -1164,7 +1133,7 @@ public final class QueryHall {
             int i = from;
             while (i < size && isDigit(text[i])) {
                 int digit = text[i] - '0';
-                if (n > (Long.MAX_VALUE - digit) / 10) {
+                if (n > (GREATEST_NUMBER - digit) / 10) {
                     return NONE;
                 }
                 n = n * 10 + digit;
@@ -1303,9 +1272,9 @@ public final class QueryHall {
                     fail();
                 }
                 pos++;
-                code.columnTypes[n] = type - NUMBER_WORD + NUMBER;
-                code.columnFilled[n] = accept(NOT);
-                if (code.columnFilled[n]) {
+                code.columns[n] = type - NUMBER_WORD + NUMBER;
+                code.filled[n] = accept(NOT);
+                if (code.filled[n]) {
                     expect(NULL_WORD);
                 }
                 if (!accept(',')) {
@@ -1582,12 +1551,11 @@ public final class QueryHall {
 
         /** Goes through the ( of what stands in it: its depth. */
         int open(int depth) {
-            if (kinds[pos] != '(') {
+            if (kinds[pos] != '(' || depth >= MOST_DEPTH) {
                 fail();
             }
-            int inner = deeper(depth);
             pos++;
-            return inner;
+            return depth + 1;
         }
 
         void readIn(int left, int place, int depth) {
@@ -1747,7 +1715,7 @@ public final class QueryHall {
             tables = all;
         }
 
-        boolean check(Code c, int indexCount) {
+        boolean check(Code c) {
             code = c;
             marks = 0;
             faultKind = NONE;
@@ -1799,7 +1767,7 @@ public final class QueryHall {
                 fault(3, code.nameAt[0]);
             }
             checkNewNames();
-            if (code.columnTypes[0] == TRUTH) {
+            if (code.columns[0] == TRUTH) {
                 fault(5, code.nameAt[1]);
             }
         }
@@ -1824,8 +1792,8 @@ public final class QueryHall {
                 fault(3, code.nameAt[1]);
                 return;
             }
-            code.settings[0] = tables[code.target].columnOf(code.names[2]);
-            if (code.settings[0] == NONE) {
+            code.columns[0] = tables[code.target].columnOf(code.names[2]);
+            if (code.columns[0] == NONE) {
                 fault(3, code.nameAt[2]);
             }
         }
@@ -1879,11 +1847,11 @@ public final class QueryHall {
             checkNewNames();
             for (int i = 0; i < code.rootCount && i < MOST_COLUMNS; i++) {
                 walk(code.roots[i], top);
-                code.settings[i] = t == null ? NONE : t.columnOf(code.names[i + 1]);
-                if (code.settings[i] == NONE) {
+                code.columns[i] = t == null ? NONE : t.columnOf(code.names[i + 1]);
+                if (code.columns[i] == NONE) {
                     fault(3, code.nameAt[i + 1]);
                 } else {
-                    need(code.roots[i], t.types[code.settings[i]]);
+                    need(code.roots[i], t.types[code.columns[i]]);
                 }
             }
             checkTruth(top.where, top);
@@ -2250,8 +2218,17 @@ public final class QueryHall {
                 case Code.IN_LIST:
                     evalInList(code.arg[i]);
                     break;
+                case Code.IS_NULL:
+                case Code.NEGATE:
+                case Code.INVERT:
+                    operateOnOne(what, (top - 1) * CELL);
+                    break;
+                case Code.BOTH:
+                case Code.EITHER:
+                    connect(what == Code.BOTH ? 0 : 1, (top - 2) * CELL, (top - 1) * CELL);
+                    break;
                 default:
-                    operate(what);
+                    operateOnTwo(what, (top - 2) * CELL, (top - 1) * CELL);
             }
         }
 
@@ -2288,31 +2265,33 @@ public final class QueryHall {
             pushIn(alike, unknown);
         }
 
-        void operate(int what) {
-            int a = (top - 1) * CELL;
+        void operateOnOne(int what, int a) {
             if (what == Code.IS_NULL) {
                 top--;
                 push(TRUTH, stack[a] == NULL ? 1 : 0);
             } else if (what == Code.NEGATE) {
                 stack[a + 1] = -stack[a + 1];
-            } else if (what == Code.INVERT) {
+            } else {
                 stack[a + 1] = stack[a] == NULL ? 0 : 1 - stack[a + 1];
-            } else if (what == Code.BOTH || what == Code.EITHER) {
-                join(what == Code.BOTH ? 0 : 1, a - CELL, a);
-            } else if (stack[a] == NULL || stack[a - CELL] == NULL) {
-                top -= 2;
+            }
+        }
+
+        void operateOnTwo(int what, int a, int b) {
+            boolean divides = what == Code.OVER || what == Code.REST;
+            boolean unknown = stack[a] == NULL || stack[b] == NULL || divides && stack[b + 1] == 0;
+            int order = Table.compare(stack, top - 2, stack, top - 1);
+            top -= 2;
+            if (unknown) {
                 push(NULL, 0);
             } else if (what <= Code.REST) {
-                calculate(what, stack[a - CELL + 1], stack[a + 1]);
+                push(NUMBER, calculate(what, stack[a + 1], stack[b + 1]));
             } else {
-                int order = Table.compare(stack, top - 2, stack, top - 1);
-                top -= 2;
                 push(TRUTH, holds(what, order) ? 1 : 0);
             }
         }
 
         /** 'and' (decided by a 0, false) and 'or' (by a 1, true). */
-        void join(int decides, int a, int b) {
+        void connect(int decides, int a, int b) {
             boolean decided = stack[a] != NULL && stack[a + 1] == decides || stack[b] != NULL && stack[b + 1] == decides;
             boolean unknown = stack[a] == NULL || stack[b] == NULL;
             top -= 2;
@@ -2323,24 +2302,18 @@ public final class QueryHall {
             }
         }
 
-        void calculate(int what, long a, long b) {
-            top -= 2;
+        static long calculate(int what, long a, long b) {
             switch (what) {
                 case Code.PLUS:
-                    push(NUMBER, a + b);
-                    break;
+                    return a + b;
                 case Code.MINUS:
-                    push(NUMBER, a - b);
-                    break;
+                    return a - b;
                 case Code.TIMES:
-                    push(NUMBER, a * b);
-                    break;
+                    return a * b;
+                case Code.OVER:
+                    return b == 0 ? 0 : a / b;
                 default:
-                    if (b == 0) {
-                        push(NULL, 0);
-                    } else {
-                        push(NUMBER, what == Code.OVER ? a / b : a % b);
-                    }
+                    return b == 0 ? 0 : a % b;
             }
         }
 
@@ -2497,22 +2470,22 @@ public final class QueryHall {
 
         boolean sameGroup(Select s, int one, int other) {
             for (int g = 0; g < s.groupCount; g++) {
-                int column = code.arg[s.group[g]];
-                int item = (column >> COLUMN_BITS) - s.level * MOST_ITEMS;
+                int code = this.code.arg[s.group[g]];
+                int item = (code >> COLUMN_BITS) - s.level * MOST_ITEMS;
                 // A column from further out is alike in all rows.
-                if (item >= 0 && !alikeIn(rowOf(s, one, item), rowOf(s, other, item), column & (1 << COLUMN_BITS) - 1)) {
+                if (item < 0) {
+                    continue;
+                }
+                int column = code & (1 << COLUMN_BITS) - 1;
+                long[] a = rowOf(s, one, item);
+                long[] b = rowOf(s, other, item);
+                boolean isNull = a == null || a[column * CELL] == NULL;
+                boolean otherIsNull = b == null || b[column * CELL] == NULL;
+                if (isNull != otherIsNull || !isNull && Table.compare(a, column, b, column) != 0) {
                     return false;
                 }
             }
             return true;
-        }
-
-        static boolean alikeIn(long[] one, long[] other, int column) {
-            if (one == null || other == null) {
-                long[] row = one == null ? other : one;
-                return row == null || row[column * CELL] == NULL;
-            }
-            return one == other || Table.compare(one, column, other, column) == 0;
         }
 
         void workAgg(Select s, int agg, int first) {
@@ -2711,12 +2684,21 @@ public final class QueryHall {
                 return;
             }
             gather();
-            long least = Long.MAX_VALUE;
+            long least = GREATEST_NUMBER;
             for (int n = 0; n < MOST_ITEMS * MOST_ITEMS * MOST_ITEMS; n++) {
                 if (!isOrder(n)) {
                     continue;
                 }
-                tryOrder();
+                rows = 1;
+                cost = 0;
+                for (int i = 0; i < count; i++) {
+                    used[i] = false;
+                }
+                int standing = 0;
+                for (int i = 0; i < select.itemCount; i++) {
+                    standing |= 1 << order[i];
+                    addItem(i, order[i], standing);
+                }
                 if (cost < least) {
                     least = cost;
                     System.arraycopy(tried, 0, s.planned, 0, tried.length);
@@ -2767,17 +2749,6 @@ public final class QueryHall {
                 }
             }
             return order[0] != order[1] && order[1] != order[2] && order[0] != order[2];
-        }
-
-        void tryOrder() {
-            rows = 1;
-            cost = 0;
-            int standing = 0;
-            Arrays.fill(used, 0, count, false);
-            for (int i = 0; i < select.itemCount; i++) {
-                standing |= 1 << order[i];
-                addItem(i, order[i], standing);
-            }
         }
 
         boolean isOpen(int part, int item, int standing) {
@@ -2890,27 +2861,13 @@ public final class QueryHall {
             after[r] = to;
             s.lastRecord = r;
             s.openRecords++;
-            turn(r, from, to);
-        }
-
-        void turn(int r, long[] from, long[] to) {
-            Table t = tableNumbers[r] == NONE ? null : tables[tableNumbers[r]];
-            if (t == null) {
-                return;
-            }
-            if (from != null && to != null) {
-                t.replace(to);
-            } else if (to != null) {
-                t.bring(to);
-            } else if (from != null) {
-                t.remove(from);
-            }
+            tables[table].turn(from, to);
         }
 
         void undo(int r) {
             int number = add(UNDO_RECORD, transactions[r], tableNumbers[r]);
             undoes[number] = r;
-            turn(r, after[r], before[r]);
+            tables[tableNumbers[r]].turn(after[r], before[r]);
         }
 
         void commit(Session s) {
@@ -2941,11 +2898,11 @@ public final class QueryHall {
             int keep = durable + Math.min(k, last - durable);
             int lost = last - keep;
             for (int r = last; r > keep; r--) {
-                int u = undoes[r];
-                if (kinds[r] == UNDO_RECORD && u > 0) {
-                    turn(u, before[u], after[u]);
-                } else {
-                    turn(r, after[r], before[r]);
+                if (kinds[r] == UNDO_RECORD) {
+                    int u = undoes[r];
+                    tables[tableNumbers[u]].turn(before[u], after[u]);
+                } else if (kinds[r] >= INSERT_RECORD && kinds[r] <= UPDATE_RECORD) {
+                    tables[tableNumbers[r]].turn(after[r], before[r]);
                 }
             }
             last = keep;
@@ -3347,10 +3304,7 @@ public final class QueryHall {
                 p.have[session] = p.want[session];
                 p.leaveQueue(session);
                 waitsAt[session] = null;
-                if (readyCount < SESSIONS) {
-                    ready[readyCount] = session;
-                    readyCount++;
-                }
+                makeReady(session);
             }
         }
 
@@ -3359,6 +3313,13 @@ public final class QueryHall {
                 if (places.get(i).isFree()) {
                     spare.add(places.remove(i));
                 }
+            }
+        }
+
+        void makeReady(int session) {
+            if (readyCount < SESSIONS) {
+                ready[readyCount] = session;
+                readyCount++;
             }
         }
 
