@@ -113,8 +113,9 @@ public final class QueryHall {
             s.beWrong(parser.faultKind, parser.faultPlace);
         } else if (!checker.check(s.code)) {
             s.beWrong(checker.faultKind, checker.faultPlace);
-        } else {
-            start(session);
+        } else if (!isControlDone(session)) {
+            evaluator.use(s.code);
+            locks.prepare(session, s.code, evaluator);
         }
         goOn();
         endCall();
@@ -357,28 +358,27 @@ public final class QueryHall {
         }
     }
 
-    private void start(int session) {
+    /** Does a statement that asks no locks; another one gets its transaction, and is still to be done. */
+    private boolean isControlDone(int session) {
         Session s = sessions[session];
         switch (s.code.statement) {
             case BEGIN:
                 begin(s);
-                break;
+                return true;
             case COMMIT:
             case ROLLBACK:
                 end(session);
-                break;
+                return true;
             case TABLE:
             case INDEX:
                 create(s);
-                break;
+                return true;
             default:
                 if (s.transaction == NONE) {
                     s.transaction = nextTransaction;
                     nextTransaction++;
                 }
-                evaluator.use(s.code);
-                locks.prepare(session, s.code, evaluator);
-                locks.makeReady(session);
+                return false;
         }
     }
 
@@ -467,26 +467,27 @@ public final class QueryHall {
     /** All is worked out first, which may be too much; then all is changed, or nothing. */
     private void perform(Session s) {
         Code c = s.code;
+        Table t = c.target < 0 || c.target >= MOST_TABLES ? null : tables[c.target];
         evaluator.use(c);
         changed = 0;
         try {
-            if (c.statement == INSERT) {
-                gatherInserts(c);
-            } else if (c.statement == SELECT) {
+            if (t == null) {
                 evaluator.work(c.top, NONE);
                 evaluator.tell(c.top, s);
+            } else if (c.statement == INSERT) {
+                gatherInserts(c, t);
             } else {
-                gatherRows(c);
+                gatherRows(c, t);
             }
         } catch (IllegalStateException tooMuch) {
             s.refuse(6);
             return;
         }
-        if (c.statement == SELECT) {
+        if (t == null) {
             planner.choose(s);
             s.outcome = s.rows;
         } else {
-            change(s, tables[c.target]);
+            change(s, t);
         }
     }
 
@@ -515,8 +516,7 @@ public final class QueryHall {
         s.outcome = changed;
     }
 
-    private void gatherInserts(Code c) {
-        Table t = tables[c.target];
+    private void gatherInserts(Code c, Table t) {
         int root = 0;
         for (int r = 0; r < c.rowCount && r < MOST_ROWS; r++) {
             long[] row = new long[t.columns * CELL];
@@ -530,8 +530,7 @@ public final class QueryHall {
         }
     }
 
-    private void gatherRows(Code c) {
-        Table t = tables[c.target];
+    private void gatherRows(Code c, Table t) {
         for (int r = 0; r < t.size; r++) {
             long[] row = t.rows[r];
             evaluator.stand(row);
@@ -1197,9 +1196,10 @@ public final class QueryHall {
         }
 
         void expect(int kind) {
-            if (!accept(kind)) {
-                fail();
+            if (kinds[pos] != kind) {
+                throw new IllegalArgumentException("no statement has this token here");
             }
+            pos++;
         }
 
         void expectName() {
@@ -1294,25 +1294,22 @@ public final class QueryHall {
                 code.rowAt[n] = places[pos];
                 code.rowCount = n + 1;
                 expect('(');
-                code.rowSize[n] = readRow();
+                boolean more = true;
+                for (int i = 0; i < MOST_COLUMNS && more; i++) {
+                    expr(0);
+                    code.addRoot(last());
+                    code.rowSize[n] = i + 1;
+                    more = accept(',');
+                }
+                if (more) {
+                    fail();
+                }
+                expect(')');
                 if (!accept(',')) {
                     return;
                 }
             }
             fail();
-        }
-
-        int readRow() {
-            for (int n = 0; n < MOST_COLUMNS; n++) {
-                expr(0);
-                code.addRoot(last());
-                if (!accept(',')) {
-                    expect(')');
-                    return n + 1;
-                }
-            }
-            fail();
-            return 0;
         }
 
         void readTarget() {
@@ -2245,12 +2242,9 @@ public final class QueryHall {
             int level = s.level;
             work(s, top - 1);
             boolean isNull = foundNull[level] || stack[(top - 1) * CELL] == NULL;
+            boolean unknown = made[level] > 0 && isNull && !foundAlike[level];
             top--;
-            pushIn(foundAlike[level], made[level] > 0 && isNull);
-        }
-
-        void pushIn(boolean alike, boolean unknown) {
-            push(alike || !unknown ? TRUTH : NULL, alike ? 1 : 0);
+            push(unknown ? NULL : TRUTH, foundAlike[level] ? 1 : 0);
         }
 
         void evalInList(int n) {
@@ -2262,7 +2256,7 @@ public final class QueryHall {
                 alike = alike || stack[i * CELL] != NULL && Table.compare(stack, x, stack, i) == 0;
             }
             top = x;
-            pushIn(alike, unknown);
+            push(unknown && !alike ? NULL : TRUTH, alike ? 1 : 0);
         }
 
         void operateOnOne(int what, int a) {
@@ -2470,18 +2464,19 @@ public final class QueryHall {
 
         boolean sameGroup(Select s, int one, int other) {
             for (int g = 0; g < s.groupCount; g++) {
-                int code = this.code.arg[s.group[g]];
-                int item = (code >> COLUMN_BITS) - s.level * MOST_ITEMS;
+                int column = code.arg[s.group[g]];
+                int item = (column >> COLUMN_BITS) - s.level * MOST_ITEMS;
                 // A column from further out is alike in all rows.
                 if (item < 0) {
                     continue;
                 }
-                int column = code & (1 << COLUMN_BITS) - 1;
-                long[] a = rowOf(s, one, item);
-                long[] b = rowOf(s, other, item);
-                boolean isNull = a == null || a[column * CELL] == NULL;
-                boolean otherIsNull = b == null || b[column * CELL] == NULL;
-                if (isNull != otherIsNull || !isNull && Table.compare(a, column, b, column) != 0) {
+                column &= (1 << COLUMN_BITS) - 1;
+                Table t = tables[s.items[item].table];
+                int a = one >> ROW_BITS * item & NO_ROW;
+                int b = other >> ROW_BITS * item & NO_ROW;
+                boolean isNull = a == NO_ROW || t.rows[a][column * CELL] == NULL;
+                boolean otherIsNull = b == NO_ROW || t.rows[b][column * CELL] == NULL;
+                if (isNull != otherIsNull || !isNull && Table.compare(t.rows[a], column, t.rows[b], column) != 0) {
                     return false;
                 }
             }
@@ -2531,18 +2526,11 @@ public final class QueryHall {
             int n = made[level];
             boolean isAnswer = s.around == null;
             for (int i = 0; i < s.orderCount; i++) {
-                eval(s.order[i]);
-                top--;
-                if (isAnswer) {
-                    System.arraycopy(stack, top * CELL, out, (n * WIDTH + i) * CELL, CELL);
-                }
+                valueInto(s.order[i], isAnswer ? out : stack, isAnswer ? n * WIDTH + i : top);
             }
             for (int i = 0; i < s.listCount; i++) {
-                eval(s.list[i]);
-                top--;
-                if (isAnswer) {
-                    System.arraycopy(stack, top * CELL, out, (n * WIDTH + MOST_KEYS_OF_ORDER + i) * CELL, CELL);
-                }
+                int cell = n * WIDTH + MOST_KEYS_OF_ORDER + i;
+                valueInto(s.list[i], isAnswer ? out : stack, isAnswer ? cell : top);
             }
             made[level] = n + 1;
             if (isAnswer) {
@@ -3140,7 +3128,7 @@ public final class QueryHall {
             return p;
         }
 
-        /** Finds the locks that a statement asks, by its text. */
+        /** Finds the locks that a statement asks, by its text; then its session can go on. */
         void prepare(int session, Code c, Evaluator evaluator) {
             askCounts[session] = 0;
             askNext[session] = 0;
@@ -3157,6 +3145,7 @@ public final class QueryHall {
                 prepareOne(session, c.target, x, X_MODE, evaluator);
             }
             dropCovered(session);
+            makeReady(session);
         }
 
         void prepareSelect(int session, Select s, Code c, Evaluator evaluator) {
