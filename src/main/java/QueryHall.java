@@ -14,6 +14,7 @@ public final class QueryHall {
     private static final int MOST_ROWS = 24;
     private static final int MOST_INSERTS = 8;
     private static final int MOST_ITEMS = 3;
+    private static final int MOST_IN = 6;
     private static final int MOST_KEYS_OF_ORDER = 3;
     private static final int MOST_DEPTH = 20;
     private static final int MOST_LEVEL = 2;
@@ -57,11 +58,11 @@ public final class QueryHall {
     private static final int IS = 231, IN = 232, TRUE = 233, FALSE = 234, COUNT = 235, MAX = 238, EXISTS = 239;
 
     private final Session[] sessions = new Session[SESSIONS];
-    private final Table[] tables = new Table[MOST_TABLES];
+    private final Table[] tables;
     private final Parser parser = new Parser();
     private final Checker checker;
-    private final Evaluator evaluator;
-    private final Planner planner;
+    private final Evaluator evaluator = new Evaluator();
+    private final Planner planner = new Planner();
     private final Locks locks = new Locks();
     private final Log journal;
     private final long[][] oldRows = new long[MOST_ROWS][];
@@ -77,10 +78,10 @@ public final class QueryHall {
         for (int i = 0; i < SESSIONS; i++) {
             sessions[i] = new Session();
         }
-        checker = new Checker(tables);
-        evaluator = new Evaluator(tables);
-        planner = new Planner(tables);
-        journal = new Log(tables);
+        Table[] all = new Table[MOST_TABLES];
+        tables = all;
+        checker = new Checker(all);
+        journal = new Log(all);
     }
 
     public int put(int session, long w, int n) throws IndexOutOfBoundsException, IllegalArgumentException {
@@ -471,9 +472,11 @@ public final class QueryHall {
         evaluator.use(c);
         changed = 0;
         try {
-            if (t == null) {
+            if (t == null && c.top != null) {
                 evaluator.work(c.top, NONE);
                 evaluator.tell(c.top, s);
+            } else if (t == null) {
+                return;
             } else if (c.statement == INSERT) {
                 gatherInserts(c, t);
             } else {
@@ -775,9 +778,11 @@ public final class QueryHall {
         long called;
         int nameAt;
         int calledAt;
-        int table;
         boolean left;
         int on;
+        // The table's number and the table itself, NONE and null if its name means nothing.
+        int table;
+        Table source;
     }
 
     /** A SELECT as it was read; or what stands around an update's, delete's, insert's EXPRS (at is NONE then). */
@@ -831,6 +836,7 @@ public final class QueryHall {
             item.nameAt = place;
             item.calledAt = place;
             item.table = NONE;
+            item.source = null;
             item.left = false;
             item.on = NONE;
             return item;
@@ -921,6 +927,12 @@ public final class QueryHall {
                 top = s;
             }
             return s;
+        }
+
+        /** The SELECT within a node, or null. */
+        Select selectOf(int node) {
+            int n = arg[node];
+            return n >= 0 && n < selectCount && n < selects.size() ? selects.get(n) : null;
         }
 
         /** The root of the left one of a node's two EXPRS; that of the right one is the node before it. */
@@ -1563,7 +1575,7 @@ public final class QueryHall {
             }
             boolean more = true;
             int n = 0;
-            while (n < 6 && more) {
+            while (n < MOST_IN && more) {
                 expr(inner);
                 n++;
                 more = accept(',');
@@ -1858,7 +1870,8 @@ public final class QueryHall {
             for (int i = 0; i < s.itemCount; i++) {
                 Item item = s.items[i];
                 item.table = tableOf(item.name);
-                if (item.table == NONE) {
+                item.source = item.table == NONE ? null : tables[item.table];
+                if (item.source == null) {
                     fault(3, item.nameAt);
                 }
                 for (int j = 0; j < i; j++) {
@@ -1870,6 +1883,9 @@ public final class QueryHall {
         }
 
         void checkSelect(Select s) {
+            if (s == null) {
+                return;
+            }
             checkItems(s);
             enter(s);
             for (int i = 0; i < s.groupCount; i++) {
@@ -1923,8 +1939,7 @@ public final class QueryHall {
                     checkAggPlace(target, s);
                     aggsAround[s.level]++;
                 } else {
-                    marksBefore[target] = marks;
-                    i = target - 1;
+                    i = Math.max(i, target - 1);
                 }
                 i++;
             }
@@ -1946,7 +1961,7 @@ public final class QueryHall {
                     aggsAround[s.level]--;
                     return typeOfAgg(i, what);
                 case Code.HAS_ROWS:
-                    checkSelect(code.selects.get(code.arg[i]));
+                    checkSelect(code.selectOf(i));
                     return TRUTH;
                 case Code.IN_SELECT:
                     checkInSelect(i);
@@ -2022,14 +2037,18 @@ public final class QueryHall {
         }
 
         void checkInSelect(int i) {
-            Select s = code.selects.get(code.arg[i]);
+            Select s = code.selectOf(i);
             int before = leftOfSelect(i);
-            checkSelect(s);
-            int columns = s.star == NONE ? s.listCount : columnsOf(s);
-            if (columns == NONE) {
+            if (s == null) {
                 return;
             }
-            int type = s.star == NONE ? types[s.list[0]] : tables[s.items[0].table].types[0];
+            checkSelect(s);
+            Table first = s.items[0].source;
+            int columns = s.star == NONE ? s.listCount : columnsOf(s);
+            if (columns == NONE || first == null && s.star != NONE) {
+                return;
+            }
+            int type = s.star == NONE ? types[s.list[0]] : first.types[0];
             if (columns > 1 || before >= 0 && type != ANY && types[before] != ANY && types[before] != type) {
                 fault(4, s.at);
             }
@@ -2047,11 +2066,11 @@ public final class QueryHall {
         int columnsOf(Select s) {
             int columns = 0;
             for (int i = 0; i < s.itemCount; i++) {
-                int table = s.items[i].table;
-                if (table == NONE) {
+                Table t = s.items[i].source;
+                if (t == null) {
                     return NONE;
                 }
-                columns += tables[table].columns;
+                columns += t.columns;
             }
             return columns;
         }
@@ -2073,8 +2092,8 @@ public final class QueryHall {
             }
             code.arg[i] = found;
             checkGrouped(i, scope);
-            Item item = scope.items[(found >> COLUMN_BITS) - scope.level * MOST_ITEMS];
-            return tables[item.table].types[found & (1 << COLUMN_BITS) - 1];
+            Table t = scope.items[(found >> COLUMN_BITS) - scope.level * MOST_ITEMS].source;
+            return t == null ? ANY : t.types[found & (1 << COLUMN_BITS) - 1];
         }
 
         /** The column that a REF means in a SELECT; NONE if it is to be looked for further out, less if it is a FAULT. */
@@ -2087,7 +2106,7 @@ public final class QueryHall {
                     continue;
                 }
                 called = second != 0;
-                int column = item.table == NONE ? NONE : tables[item.table].columnOf(second != 0 ? second : first);
+                int column = item.source == null ? NONE : item.source.columnOf(second != 0 ? second : first);
                 if (column != NONE) {
                     found = found == NONE ? Code.columnCode(s.level, i, column) : NONE - 1;
                 }
@@ -2112,7 +2131,6 @@ public final class QueryHall {
     private static final class Evaluator {
         static final int WIDTH = MOST_KEYS_OF_ORDER + MOST_COLUMNS;
 
-        final Table[] tables;
         final long[] stack = new long[Code.SIZE * CELL];
         final long[] aggs = new long[Code.SIZE * CELL];
         // For each level and ITEM the row that is looked at, and where it stands in its table.
@@ -2137,10 +2155,6 @@ public final class QueryHall {
         Code code;
         int top;
         int looks;
-
-        Evaluator(Table[] all) {
-            tables = all;
-        }
 
         void use(Code c) {
             code = c;
@@ -2182,9 +2196,7 @@ public final class QueryHall {
 
         void eval(int root) {
             for (int i = code.first[root]; i <= root; i++) {
-                if (code.op[i] == Code.SKIP) {
-                    i = code.arg[i];
-                }
+                i = code.op[i] == Code.SKIP ? Math.max(i, code.arg[i]) : i;
                 step(i, code.op[i]);
             }
         }
@@ -2205,12 +2217,10 @@ public final class QueryHall {
                     pushCell(aggs, i);
                     break;
                 case Code.HAS_ROWS:
-                    Select s = code.selects.get(code.arg[i]);
-                    work(s, NONE);
-                    push(TRUTH, made[s.level] > 0 ? 1 : 0);
+                    evalWithin(code.selectOf(i), NONE);
                     break;
                 case Code.IN_SELECT:
-                    evalInSelect(code.selects.get(code.arg[i]));
+                    evalWithin(code.selectOf(i), top - 1);
                     break;
                 case Code.IN_LIST:
                     evalInList(code.arg[i]);
@@ -2238,13 +2248,22 @@ public final class QueryHall {
             }
         }
 
-        void evalInSelect(Select s) {
-            int level = s.level;
-            work(s, top - 1);
-            boolean isNull = foundNull[level] || stack[(top - 1) * CELL] == NULL;
-            boolean unknown = made[level] > 0 && isNull && !foundAlike[level];
+        /** 'exists', or 'in' of a SELECT: x is the cell on the stack before 'in', or NONE. */
+        void evalWithin(Select s, int x) {
+            if (s == null) {
+                push(NULL, 0);
+                return;
+            }
+            work(s, x);
+            boolean any = made[s.level] > 0;
+            if (x == NONE) {
+                push(TRUTH, any ? 1 : 0);
+                return;
+            }
+            boolean alike = foundAlike[s.level];
+            boolean unknown = any && !alike && (foundNull[s.level] || stack[x * CELL] == NULL);
             top--;
-            push(unknown ? NULL : TRUTH, foundAlike[level] ? 1 : 0);
+            push(unknown ? NULL : TRUTH, alike ? 1 : 0);
         }
 
         void evalInList(int n) {
@@ -2337,7 +2356,7 @@ public final class QueryHall {
             int level = s.level;
             int looksHere = 1;
             for (int i = 0; i < s.itemCount; i++) {
-                looksHere *= tables[s.items[i].table].size;
+                looksHere *= s.items[i].source == null ? 0 : s.items[i].source.size;
             }
             looks += looksHere;
             if (looks > MOST_LOOKS) {
@@ -2361,10 +2380,10 @@ public final class QueryHall {
                 return;
             }
             Item item = s.items[i];
-            Table t = tables[item.table];
+            Table t = item.source;
             int slot = s.level * MOST_ITEMS + i;
             boolean any = false;
-            for (int r = 0; r < t.size; r++) {
+            for (int r = 0; t != null && r < t.size; r++) {
                 rows[slot] = t.rows[r];
                 rowNumbers[slot] = r;
                 if (item.on == NONE || isTrue(item.on)) {
@@ -2405,7 +2424,8 @@ public final class QueryHall {
 
         long[] rowOf(Select s, int packed, int i) {
             int r = packed >> ROW_BITS * i & NO_ROW;
-            return r == NO_ROW ? null : tables[s.items[i].table].rows[r];
+            Table t = s.items[i].source;
+            return t == null || r >= t.size ? null : t.rows[r];
         }
 
         void standOn(Select s, int packed) {
@@ -2418,8 +2438,10 @@ public final class QueryHall {
             int groups = s.groupCount == 0 ? oneGroup(s.level) : makeGroups(s);
             for (int g = 0; g < groups; g++) {
                 int first = firstKept[s.level][g];
-                for (int agg = s.lastAgg; agg >= 0; agg = code.arg[agg]) {
+                int agg = s.lastAgg;
+                for (int n = 0; n < code.count && agg != NONE; n++) {
                     workAgg(s, agg, first);
+                    agg = code.arg[agg];
                 }
                 for (int i = 0; first == NONE && i < s.itemCount; i++) {
                     rows[s.level * MOST_ITEMS + i] = null;
@@ -2466,16 +2488,16 @@ public final class QueryHall {
             for (int g = 0; g < s.groupCount; g++) {
                 int column = code.arg[s.group[g]];
                 int item = (column >> COLUMN_BITS) - s.level * MOST_ITEMS;
+                Table t = item < 0 ? null : s.items[item].source;
                 // A column from further out is alike in all rows.
-                if (item < 0) {
+                if (t == null) {
                     continue;
                 }
                 column &= (1 << COLUMN_BITS) - 1;
-                Table t = tables[s.items[item].table];
                 int a = one >> ROW_BITS * item & NO_ROW;
                 int b = other >> ROW_BITS * item & NO_ROW;
-                boolean isNull = a == NO_ROW || t.rows[a][column * CELL] == NULL;
-                boolean otherIsNull = b == NO_ROW || t.rows[b][column * CELL] == NULL;
+                boolean isNull = a >= t.size || t.rows[a][column * CELL] == NULL;
+                boolean otherIsNull = b >= t.size || t.rows[b][column * CELL] == NULL;
                 if (isNull != otherIsNull || !isNull && Table.compare(t.rows[a], column, t.rows[b], column) != 0) {
                     return false;
                 }
@@ -2490,23 +2512,26 @@ public final class QueryHall {
             aggs[at] = counts ? NUMBER : NULL;
             aggs[at + 1] = 0;
             aggs[at + 2] = 0;
-            for (int r = first; r != NONE; r = nextKept[s.level][r]) {
+            int r = first;
+            for (int n = 0; n < trueRows[s.level] && r != NONE; n++) {
                 if (what == Code.COUNT_ALL) {
                     aggs[at + 1]++;
-                    continue;
-                }
-                standOn(s, kept[s.level][r]);
-                eval(agg - 1);
-                top--;
-                if (stack[top * CELL] != NULL) {
+                } else {
+                    standOn(s, kept[s.level][r]);
+                    eval(agg - 1);
+                    top--;
                     addTo(agg, what);
                 }
+                r = nextKept[s.level][r];
             }
         }
 
         /** Takes the value behind the stack's top into an AGG. */
         void addTo(int agg, int what) {
             int at = agg * CELL;
+            if (stack[top * CELL] == NULL) {
+                return;
+            }
             if (what == Code.COUNTS) {
                 aggs[at + 1]++;
             } else if (what == Code.SUMS) {
@@ -2556,7 +2581,7 @@ public final class QueryHall {
             sort(s);
             int columns = s.listCount;
             for (int i = 0; s.star != NONE && i < s.itemCount; i++) {
-                columns += tables[s.items[i].table].columns;
+                columns += s.items[i].source == null ? 0 : s.items[i].source.columns;
             }
             int n = 0;
             for (int i = 0; i < made[0]; i++) {
@@ -2596,7 +2621,8 @@ public final class QueryHall {
         void tellAll(Select s, int packed, long[] cells, int to) {
             int at = to * CELL;
             for (int i = 0; i < s.itemCount; i++) {
-                int size = tables[s.items[i].table].columns * CELL;
+                Table t = s.items[i].source;
+                int size = t == null ? 0 : t.columns * CELL;
                 long[] row = rowOf(s, packed, i);
                 if (row == null) {
                     Arrays.fill(cells, at, at + size, NULL);
@@ -2645,7 +2671,6 @@ public final class QueryHall {
 
     /** Finds the order of a SELECT's ITEMS with the least COST. */
     private static final class Planner {
-        final Table[] tables;
         final int[] parts = new int[Code.SIZE];
         // The ITEM of a PART's 'on' (NONE for 'where'), and the bits of the ITEMS to which it has REFS.
         final int[] partItems = new int[Code.SIZE];
@@ -2659,10 +2684,6 @@ public final class QueryHall {
         int count;
         long rows;
         long cost;
-
-        Planner(Table[] all) {
-            tables = all;
-        }
 
         void choose(Session s) {
             code = s.code;
@@ -2747,7 +2768,10 @@ public final class QueryHall {
         }
 
         void addItem(int step, int item, int standing) {
-            Table t = tables[select.items[item].table];
+            Table t = select.items[item].source;
+            if (t == null) {
+                return;
+            }
             long rowsBefore = rows;
             int part = partFor(item, 0, standing);
             int index = NONE;
@@ -2865,8 +2889,10 @@ public final class QueryHall {
         }
 
         void rollBack(Session s) {
-            for (int r = s.lastRecord; r > 0; r = previous[r]) {
+            int r = s.lastRecord;
+            for (int n = 0; n < s.openRecords && r > 0; n++) {
                 undo(r);
+                r = previous[r];
             }
             if (s.begin > 0) {
                 add(END_RECORD, s.transaction, NONE);
@@ -2874,11 +2900,13 @@ public final class QueryHall {
         }
 
         int deletedBy(Session s, int table) {
-            int n = 0;
-            for (int r = s.lastRecord; r > 0; r = previous[r]) {
-                n += kinds[r] == DELETE_RECORD && tableNumbers[r] == table ? 1 : 0;
+            int deleted = 0;
+            int r = s.lastRecord;
+            for (int n = 0; n < s.openRecords && r > 0; n++) {
+                deleted += kinds[r] == DELETE_RECORD && tableNumbers[r] == table ? 1 : 0;
+                r = previous[r];
             }
-            return n;
+            return deleted;
         }
 
         /** Keeps k records that are not durable and loses those behind: how many. */
@@ -2986,7 +3014,7 @@ public final class QueryHall {
         boolean touched;
 
         /** Before (less than 0), at (0) or behind a table or KEY, in the order in which locks are asked. */
-        int compareTo(int otherTable, long[] cells, int cell) {
+        int compareWith(int otherTable, long[] cells, int cell) {
             return table != otherTable ? Integer.compare(table, otherTable) : Table.compare(key, 0, cells, cell);
         }
 
@@ -3106,14 +3134,14 @@ public final class QueryHall {
 
         int before(int table, long[] cells, int cell) {
             int at = 0;
-            while (at < places.size() && places.get(at).compareTo(table, cells, cell) < 0) {
+            while (at < places.size() && places.get(at).compareWith(table, cells, cell) < 0) {
                 at++;
             }
             return at;
         }
 
         boolean isAt(int at, int table, long[] cells, int cell) {
-            return at < places.size() && places.get(at).compareTo(table, cells, cell) == 0;
+            return at < places.size() && places.get(at).compareWith(table, cells, cell) == 0;
         }
 
         Place placeOf(int table, long[] cells, int cell) {
@@ -3288,7 +3316,7 @@ public final class QueryHall {
         }
 
         void grant(Place p) {
-            while (p.waiting > 0 && p.fits(p.queue[0], p.want[p.queue[0]])) {
+            for (int n = p.waiting; n > 0 && p.fits(p.queue[0], p.want[p.queue[0]]); n--) {
                 int session = p.queue[0];
                 p.have[session] = p.want[session];
                 p.leaveQueue(session);
