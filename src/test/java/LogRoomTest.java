@@ -34,13 +34,13 @@ public final class LogRoomTest {
         // 17 rows: 3931 + 2 * 34 + 2 is one too many; 16 rows: 3931 + 2 * 32 + 2
         due("no room for 34", ask(0, "update t set a=a where a<22"), QueryHall.REFUSED);
         due("reason", hall.why(0, 0), 7);
-        due("begin", ask(2, "begin"), 0);
-        due("no room for 34", ask(2, "update t set a=a where a<22"), QueryHall.REFUSED);
-        due("reason", hall.why(2, 0), 7);
-        due("room for 32", ask(2, "update t set a=a where a<21"), 16);
+        due("begin", ask(0, "begin"), 0);
+        due("no room for 34", ask(0, "update t set a=a where a<22"), QueryHall.REFUSED);
+        due("reason", hall.why(0, 0), 7);
+        due("room for 32", ask(0, "update t set a=a where a<21"), 16);
         due("records", hall.told(2), 3964);
         // 3964 records and a RESERVE of 33
-        due("room for 1", ask(2, "update t set a=1 where a=1"), QueryHall.REFUSED);
+        due("no room for 1", ask(0, "update t set a=1 where a=1"), QueryHall.REFUSED);
         due("nothing lost", hall.crash(0), 0);
         due("steps", hall.recover(5000), 3997);
         due("records", hall.told(2), 3997);
