@@ -2545,7 +2545,7 @@ public final class QueryHall {
             }
         }
 
-        /** Works 'order' and the list out for the row or group that is looked at. */
+        /** Works 'order' and the list out for the row or group that is looked at; only the answer's cells are kept. */
         void makeRow(Select s) {
             int level = s.level;
             int n = made[level];
