@@ -17,10 +17,10 @@ public final class AnyCallsTest {
 
     public static void main(String[] args) {
         long thrown = 0;
-        for (int seed = 0; seed < 150; seed++) {
+        for (int seed = 0; seed < 600; seed++) {
             Random random = new Random(seed);
             QueryHall hall = new QueryHall();
-            for (int n = 0; n < 1500; n++) {
+            for (int n = 0; n < 400; n++) {
                 thrown += call(hall, random) ? 1 : 0;
             }
         }
