@@ -85,11 +85,11 @@ public final class ScenariosTest {
     }
 
     private void check(String place, String line) {
-        int at = line.lastIndexOf(" => ");
+        int at = (line + " ").lastIndexOf(" => ");
         if (at < 0) {
             throw new IllegalArgumentException(place + ": no answer is due: " + line);
         }
-        String due = line.substring(at + 4).trim();
+        String due = line.substring(at + 3).trim();
         String call = line.substring(0, at);
         int times = 1;
         if (call.startsWith("times ")) {
